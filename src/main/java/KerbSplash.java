@@ -1590,6 +1590,7 @@ public final class KerbSplash {
     /** What would come of it, tried on a street of its own, so that nothing stays changed. */
     private static final class WhatIf {
         private static final int MOST_STEP = 15;
+        private static final int ALL_SETS = 1 << Street.MOST_WORKS;
 
         private final Street trial = new Street();
         private final Car car = new Car();
@@ -1741,32 +1742,27 @@ public final class KerbSplash {
         private void findMend(Street street, Rain rain, int cell, int n) {
             found = NONE;
             worth = NONE;
-            int sets = 1 << street.works;
-            int last = NONE;
-            for (int i = 0; i < sets; i++) {
-                int rank = nextRank(street, sets, last);
-                if (rank == NONE) {
-                    return;
-                }
-                last = rank;
-                int set = rank % sets;
+            int rank = nextRank(street, NONE);
+            for (int i = 0; i < ALL_SETS && rank != NONE; i++) {
+                int set = rank & (ALL_SETS - 1);
                 trial.become(street);
                 trial.doWorks(set);
                 trial.passRain(rain);
                 if (trial.water[cell] <= n) {
                     found = set;
-                    worth = rank / sets;
+                    worth = rank >> Street.MOST_WORKS;
                     return;
                 }
+                rank = nextRank(street, rank);
             }
         }
 
         /** The least rank above the last one, of sets of works not done; a rank is by coin, then by bits. */
-        private int nextRank(Street street, int sets, int last) {
+        private int nextRank(Street street, int last) {
             int least = NONE;
-            for (int set = 0; set < sets; set++) {
+            for (int set = 0; set < 1 << street.works; set++) {
                 if ((set & street.done) == 0) {
-                    int rank = street.coinOf(set) * sets + set;
+                    int rank = (street.coinOf(set) << Street.MOST_WORKS) | set;
                     if (rank > last && (least == NONE || rank < least)) {
                         least = rank;
                     }
