@@ -180,9 +180,12 @@ public final class PromisesTest {
         streetFault("person 0 20;", 2, 9);
         streetFault("shelter 2 1;", 2, 10);
         streetFault("shelter 2 8;", 2, 10);
+        streetFault("shelter 8 8;", 2, 8);
         streetFault("clear 0 5;", 2, 6);
         streetFault("drain 0 0 1 1;clear 1 5;", 2, 20);
         streetFault("drain 0 0 1 1;clear 0 0;", 2, 22);
+        streetFault("raise 8 0 1 1;", 2, 6);
+        streetFault("raise 0 3 1 1;", 2, 8);
         streetFault("raise 0 0 0 1;", 2, 10);
         streetFault("raise 0 0 51 1;", 2, 10);
         streetFault("lower 0 0 51 1;", 2, 10);
@@ -469,6 +472,15 @@ public final class PromisesTest {
         KerbSplash r = with("size 2 1;high 0 0 53;");
         r.minutes(1, 3);
         due("half of three is one, and one higher is no more", r.cell(0, 0, 1), 2);
+        StringBuilder stairs = new StringBuilder("size 16 1;high 0 0 0;");
+        for (int x = 1; x < 16; x++) {
+            stairs.append("high ").append(x).append(" 0 ").append(20 + 5 * x).append(';');
+        }
+        KerbSplash down = with(stairs.toString());
+        down.minutes(1, 1);
+        // Each round lets what stands on a step run one step down.
+        due("8 rounds", down.cell(0, 0, 1), 9);
+        due("the steps that are wet still", down.ice(1, 1), 8);
         refused("minutes(0, 0)", ARGUMENT, () -> k.minutes(0, 0));
         refused("minutes(61, 0)", ARGUMENT, () -> k.minutes(61, 0));
         refused("minutes(1, -1)", ARGUMENT, () -> k.minutes(1, -1));
@@ -614,6 +626,13 @@ public final class PromisesTest {
         KerbSplash dry = with("size 2 1;person 0 0;", "throw=8;reach=9999;wet=9;");
         dry.minutes(1, 1);
         due("nothing thrown, nobody hit", dry.car(0, 0, 9, 1, 0) + dry.person(0, 3), 0);
+        KerbSplash names = with("size 2 1;person 0 3;shelter 0 1;",
+            "throw=16*(1-far)*(1-shelter);reach=4+far+shelter;wet=far*10+shelter;");
+        names.minutes(1, 1);
+        due("far and shelter are 0 but of wet", names.car(0, 0, 9, 1, 0), 31);
+        KerbSplash none = with("size 2 1;person 0 0;", "throw=0-1;reach=9;wet=9;");
+        none.minutes(1, 20);
+        due("throw is held to nothing", none.car(0, 0, 9, 1, 0) + none.sums(2), 0);
         KerbSplash zero = with("size 2 1;person 0 0;", "throw=99;reach=1;wet=0-5;");
         zero.minutes(1, 1);
         due("hit by nothing", zero.car(0, 0, 9, 1, 0), 0);
@@ -785,6 +804,10 @@ public final class PromisesTest {
         both.traffic(0, 0, 9, 1, 0);
         due("it counts as one of the people", both.stand(0, 0, 1), 30);
         due("beside the other", both.stand(0, 0, 0), 100);
+        KerbSplash one = with("size 2 1;person 0 0;", "throw=16;reach=9;wet=people-1;");
+        one.minutes(1, 1);
+        one.traffic(0, 0, 9, 1, 0);
+        due("by one less wet", one.stand(0, 0, 0), 100);
         KerbSplash no = new KerbSplash();
         law(no, "");
         refused("without a street", STATE, () -> no.stand(0, 0, 0));
@@ -805,6 +828,9 @@ public final class PromisesTest {
         KerbSplash fast = with("size 2 1;person 0 0;", "throw=16;reach=if pace=50 then 0 else 9;wet=7;");
         fast.minutes(1, 1);
         due("the greatest, even if slower ones are worse", fast.pace(0, 0, 1, 0), 50);
+        KerbSplash walk = with("size 2 1;person 0 0;", "throw=16;reach=if pace=1 then 0 else 9;wet=7;");
+        walk.minutes(1, 1);
+        due("the least there is", walk.pace(0, 0, 1, 0), 1);
         refused("n -1", ARGUMENT, () -> k.pace(0, 0, 1, -1));
         refused("n 10000", ARGUMENT, () -> k.pace(0, 0, 1, 10000));
         refused("row 1", ARGUMENT, () -> k.pace(0, 1, 1, 0));
@@ -827,6 +853,14 @@ public final class PromisesTest {
         due("no step but none", wide.moved(0, 0), 0);
         due("as they are", wide.moved(0, 1), 40);
         due("nobody there", with("size 2 1;", "").moved(0, 0), -15);
+        KerbSplash far = with("size 16 1;person 0 0;shelter 15 15;", "throw=16;reach=9;wet=1-shelter;");
+        far.minutes(1, 1);
+        far.traffic(0, 0, 9, 1, 0);
+        due("the widest step", far.moved(0, 0), 15);
+        KerbSplash back = with("size 16 1;person 15 0;shelter 0 0;", "throw=16;reach=9;wet=1-shelter;");
+        back.minutes(1, 1);
+        back.traffic(0, 0, 9, 1, 0);
+        due("the widest step back", back.moved(0, 0), -15);
         refused("what 2", ARGUMENT, () -> k.moved(0, 2));
         refused("what -1", ARGUMENT, () -> k.moved(0, -1));
         refused("law 1", NO_SUCH, () -> k.moved(1, 2));
