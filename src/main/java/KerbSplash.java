@@ -11,9 +11,8 @@ public final class KerbSplash {
     private static final int FAULT_LESS = 10;
 
     private final Tape tape = new Tape();
-    // One place more than may be told: a text is read there even when no more may come.
-    private final Rain[] rains = new Rain[MOST_RAINS + 1];
-    private final Law[] laws = new Law[MOST_LAWS + 1];
+    private final Rain[] rains = new Rain[MOST_RAINS];
+    private final Law[] laws = new Law[MOST_LAWS];
     private int rainsTold;
     private int lawsTold;
     private Street now = new Street();
@@ -68,12 +67,12 @@ public final class KerbSplash {
 
     public int rain(int n) throws IllegalArgumentException {
         beginText(n);
+        if (rainsTold >= MOST_RAINS) {
+            return NONE;
+        }
         rains[rainsTold].read(tape);
         if (!tape.good()) {
             return tape.fault - FAULT_LESS;
-        }
-        if (rainsTold == MOST_RAINS) {
-            return NONE;
         }
         rainsTold++;
         return rainsTold - 1;
@@ -81,12 +80,12 @@ public final class KerbSplash {
 
     public int law(int n) throws IllegalArgumentException {
         beginText(n);
+        if (lawsTold >= MOST_LAWS) {
+            return NONE;
+        }
         new LawReader(tape, laws[lawsTold]).read();
         if (!tape.good()) {
             return tape.fault - FAULT_LESS;
-        }
-        if (lawsTold == MOST_LAWS) {
-            return NONE;
         }
         lawsTold++;
         return lawsTold - 1;

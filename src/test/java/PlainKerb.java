@@ -602,12 +602,11 @@ public final class PlainKerb {
 
     public int rain(int n) {
         String text = text(n);
+        if (rains.size() == 4) {
+            return -1;
+        }
         try {
-            List<Integer> rain = readRain(text);
-            if (rains.size() == 4) {
-                return -1;
-            }
-            rains.add(rain);
+            rains.add(readRain(text));
         } catch (Fault fault) {
             faultAt = fault.place;
             return fault.why - 10;
@@ -617,12 +616,11 @@ public final class PlainKerb {
 
     public int law(int n) {
         String text = text(n);
+        if (laws.size() == 4) {
+            return -1;
+        }
         try {
-            Map<String, Formula> law = readLaw(text);
-            if (laws.size() == 4) {
-                return -1;
-            }
-            laws.add(law);
+            laws.add(readLaw(text));
         } catch (Fault fault) {
             faultAt = fault.place;
             return fault.why - 10;

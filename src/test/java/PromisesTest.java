@@ -263,6 +263,16 @@ public final class PromisesTest {
         due("a fifth", rain(k, "rain 1 1;"), -1);
         due("told(6)", k.told(6), 4);
         due("its tape", k.count(3), 0);
+        due("a fifth that can't stand is not read", rain(k, "rain 21 1;"), -1);
+        due("its fault", k.fault(), -1);
+        due("its tape", k.count(3), 0);
+        due("a fifth of none", rain(k, ""), -1);
+        due("a faulty street", street(k, "size 1;"), -8);
+        due("its fault", k.fault(), 5);
+        due("a fifth behind it", rain(k, "snow"), -1);
+        due("tells no fault", k.fault(), -1);
+        due("a law still has its faults", law(k, "wet=;"), -9);
+        due("at its place", k.fault(), 4);
         refused("rain(1)", ARGUMENT, () -> k.rain(1));
         refused("rain(-1)", ARGUMENT, () -> k.rain(-1));
     }
@@ -296,6 +306,14 @@ public final class PromisesTest {
             due("law " + i, law(k, "wet=" + i + ";"), i);
         }
         due("a fifth", law(k, "wet=9;"), -1);
+        due("a fifth that can't stand is not read", law(k, "wet=9;;"), -1);
+        due("its fault", k.fault(), -1);
+        due("its tape", k.count(3), 0);
+        due("told(7)", k.told(7), 4);
+        due("a rain still has its faults", rain(k, "rain 1;"), -9);
+        due("at its place", k.fault(), 6);
+        due("a fifth behind it", law(k, "("), -1);
+        due("tells no fault", k.fault(), -1);
         due("the fourth is as it was", k.says(3, 2, 0, 0, 0, 0, 0, 0, 0), 3);
         refused("law(1)", ARGUMENT, () -> k.law(1));
         refused("law(-1)", ARGUMENT, () -> k.law(-1));
