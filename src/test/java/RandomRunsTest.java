@@ -365,6 +365,26 @@ public final class RandomRunsTest {
         }
     }
 
+    // What may be told only so often is told once more than that, for its own answer is due then.
+    private void tooMuch() {
+        int way = random.nextInt(5);
+        for (int i = 0; i < 5 && way == 0; i++) {
+            tell("rain", spoilt(rain()));
+        }
+        for (int i = 0; i < 5 && way == 1; i++) {
+            tell("law", spoilt(law()));
+        }
+        for (int i = 0; i < 21 && way == 2; i++) {
+            call("traffic", in(0, 5), in(0, rows - 1), in(1, 60), in(1, 9), in(0, 3));
+        }
+        for (int i = 0; i < 10 && way == 3; i++) {
+            call("dip", in(1, 99), in(1, 30), in(1, 99));
+        }
+        for (int i = 0; i < 31 && way == 4; i++) {
+            call("feed", random.nextInt(), 0x3b3b3b3b, 0, -1, i);
+        }
+    }
+
     private boolean run() {
         for (int i = 0; i < 4; i++) {
             oneCall();
@@ -380,6 +400,9 @@ public final class RandomRunsTest {
             }
             if (random.nextInt(8) == 0) {
                 longTimes();
+            }
+            if (random.nextInt(4) == 0) {
+                tooMuch();
             }
             for (int j = 0; j < 15; j++) {
                 oneCall();
