@@ -1050,7 +1050,7 @@ public final class KerbSplash {
         }
 
         private boolean open() {
-            if (opened == MOST_OPEN) {
+            if (opened >= MOST_OPEN) {
                 tape.refuse(Tape.TOO_MANY);
                 return false;
             }

@@ -1,114 +1,6 @@
-import java.util.NoSuchElementException;
-
 /** For each promise of the document: ordinary inputs, the edges it names, and wrong inputs; worked out by hand. */
-public final class PromisesTest {
-    private interface Call {
-        int answer();
-    }
-
-    private static final Class<?> OUTSIDE = IndexOutOfBoundsException.class;
-    private static final Class<?> NO_SUCH = NoSuchElementException.class;
-    private static final Class<?> ARGUMENT = IllegalArgumentException.class;
-    private static final Class<?> STATE = IllegalStateException.class;
+public final class PromisesTest extends Checks {
     private static final String DRY_LAW = "throw=8;reach=99;wet=5;";
-
-    private static int checks;
-    private static int wrong;
-    private static int promise;
-
-    private static void due(String what, int got, int want) {
-        checks++;
-        if (got != want) {
-            wrong++;
-            System.out.println("promise " + promise + ": " + what + " answered " + got + ", due is " + want);
-        }
-    }
-
-    private static void refused(String what, Class<?> want, Call call) {
-        checks++;
-        String got;
-        try {
-            got = String.valueOf(call.answer());
-        } catch (RuntimeException thrown) {
-            if (thrown.getClass() == want) {
-                return;
-            }
-            got = thrown.getClass().getSimpleName();
-        }
-        wrong++;
-        System.out.println("promise " + promise + ": " + what + " answered " + got + ", due is " + want.getSimpleName());
-    }
-
-    private static void feed(KerbSplash k, String text) {
-        int[] five = new int[5];
-        for (int from = 0; from < text.length(); from += 20) {
-            for (int i = 0; i < 5; i++) {
-                five[i] = 0;
-                for (int j = from + 4 * i; j < from + 4 * i + 4; j++) {
-                    five[i] = five[i] << 8 | (j < text.length() ? text.charAt(j) & 255 : 0);
-                }
-            }
-            k.feed(five[0], five[1], five[2], five[3], five[4]);
-        }
-    }
-
-    private static int street(KerbSplash k, String text) {
-        feed(k, text);
-        return k.street(text.length());
-    }
-
-    private static int rain(KerbSplash k, String text) {
-        feed(k, text);
-        return k.rain(text.length());
-    }
-
-    private static int law(KerbSplash k, String text) {
-        feed(k, text);
-        return k.law(text.length());
-    }
-
-    private static KerbSplash with(String street) {
-        KerbSplash k = new KerbSplash();
-        int cells = street(k, street);
-        if (cells < 0) {
-            due("the street \"" + street + "\" with its fault at " + k.fault(), cells, 0);
-        }
-        return k;
-    }
-
-    private static KerbSplash with(String street, String law) {
-        KerbSplash k = with(street);
-        due("the law \"" + law + "\"", law(k, law), 0);
-        return k;
-    }
-
-    private static void streetFault(String text, int why, int place) {
-        KerbSplash k = new KerbSplash();
-        due("street \"" + text + "\"", street(k, text), why - 10);
-        due("fault of \"" + text + "\"", k.fault(), place);
-        due("told(0) behind \"" + text + "\"", k.told(0), 0);
-    }
-
-    private static void rainFault(String text, int why, int place) {
-        KerbSplash k = new KerbSplash();
-        due("rain \"" + text + "\"", rain(k, text), why - 10);
-        due("fault of \"" + text + "\"", k.fault(), place);
-        due("told(6) behind \"" + text + "\"", k.told(6), 0);
-    }
-
-    private static void lawFault(String text, int why, int place) {
-        KerbSplash k = new KerbSplash();
-        due("law \"" + text + "\"", law(k, text), why - 10);
-        due("fault of \"" + text + "\"", k.fault(), place);
-        due("told(7) behind \"" + text + "\"", k.told(7), 0);
-    }
-
-    private static void value(String formula, int want) {
-        KerbSplash k = new KerbSplash();
-        String text = "out=" + formula + ";";
-        due("law \"" + text + "\"", law(k, text), 0);
-        due(formula, k.says(0, 4, 3, 5, 7, 11, 13, 17, 19), want);
-    }
 
     private static void newObject() {
         KerbSplash k = new KerbSplash();
@@ -242,6 +134,72 @@ public final class PromisesTest {
         due("restore()", k.restore(), -1);
         due("height", k.cell(0, 0, 0), 50);
         due("status stays", k.status(2), 3);
+    }
+
+    private static void streetsOneBehindAnother() {
+        String full = "size 3 1;high 0 0 99;drain 1 0 9 5;person 0 0;person 1 0;shelter 0 1;clear 0 1;bore 1 0 3 1;";
+        KerbSplash k = with(full, "throw=16;reach=9;wet=9;");
+        k.minutes(3, 5);
+        k.does(0);
+        k.does(1);
+        k.car(0, 0, 1, 1, 0);
+        // A street is told while the one ahead of it, then the second one ahead of it has water, wet persons and works.
+        for (int i = 0; i < 3; i++) {
+            due("a faulty one", street(k, full + "high"), -9);
+            due("again", street(k, full), 3);
+            int[] told = {3, 1, 1, 2, 1, 2, 0, 1, 0};
+            for (int what = 0; what <= 8; what++) {
+                due("told(" + what + ")", k.told(what), told[what]);
+            }
+            for (int what = 0; what < 4; what++) {
+                due("sums(" + what + ")", k.sums(what), 0);
+            }
+            due("no water", k.cell(0, 0, 1) + k.cell(1, 0, 1) + k.cell(2, 0, 1), 0);
+            due("dry", k.person(0, 2) + k.person(1, 2) + k.person(0, 3) + k.person(1, 3), 0);
+            due("leaves", k.drain(0, 3), 5);
+            due("work 0 is to do", k.does(0), 1);
+            due("work 1 is to do", k.does(1), 1);
+            k.minutes(3, 5);
+            k.car(0, 0, 1, 1, 0);
+        }
+        due("one without all that", street(k, "bore 0 0 5 5;"), 24);
+        int[] told = {8, 3, 0, 0, 0, 1, 0, 1, 0};
+        for (int what = 0; what <= 8; what++) {
+            due("told(" + what + ") then", k.told(what), told[what]);
+        }
+        due("its height", k.cell(0, 0, 0), 50);
+        k.does(0);
+        refused("no leaves for the only drain, a bored one", ARGUMENT, () -> k.leaves(0, 0));
+        due("nothing to sweep", k.sweep(0), 0);
+        feed(k, "high 0 0 1;");
+        due("n 0 with bytes on the tape", k.street(0), 24);
+        due("the tape is empty", k.count(3), 0);
+    }
+
+    private static void rainBehindAFaultyOne() {
+        KerbSplash k = with("size 2 1;");
+        due("a faulty one of many minutes", rain(k, "rain 20 30;rain 20 30;rain"), -9);
+        due("a good one of two", rain(k, "rain 3 1;rain 0 1;"), 0);
+        due("never by what the faulty one told", k.when(0, 0, 0, 4), -1);
+        due("deep", k.deep(0, 0, 0), 3);
+        due("two minutes", k.shower(0), 2);
+        due("and so much", k.sums(0), 6);
+    }
+
+    private static void lawBehindAFaultyOne() {
+        KerbSplash k = new KerbSplash();
+        String sum = "1+".repeat(297) + "1";
+        for (int i = 0; i < 4; i++) {
+            due("a faulty one of 599 bytes", law(k, "wet=" + sum), -9);
+            due("its fault", k.fault(), 599);
+            due("a faulty one with more sayings", law(k, "throw=1;reach=2;slow=3;out=4;out"), -6);
+            due("a good one of 600 bytes", law(k, "wet=" + sum + ";"), i);
+            due("what it says", k.says(i, 2, 0, 0, 0, 0, 0, 0, 0), 298);
+            for (int what : new int[] {0, 1, 3, 4}) {
+                due("not what the faulty one told", k.says(i, what, 0, 0, 0, 0, 0, 0, 0), 0);
+            }
+        }
+        due("the first still says so", k.says(0, 2, 0, 0, 0, 0, 0, 0, 0), 298);
     }
 
     private static void rains() {
@@ -787,6 +745,13 @@ public final class PromisesTest {
         due("a bored one, too", k.look(0, 0), 300);
         due("three kinds", k.look(0, 1), 3);
         due("leaves stay", k.drain(0, 3), 3);
+        KerbSplash one = with("size 2 1;high 0 0 99;drain 1 0 6 0;drain 1 0 7 0;drain 1 0 8 0;");
+        rain(one, "rain 5 1;");
+        due("any two take all 10", one.look(0, 1), 1);
+        due("so it is of no matter where", one.look(0, 0), 0);
+        rain(one, "rain 9 1;");
+        due("of 18 they leave 3, 4 and 5", one.look(1, 1), 3);
+        due("there", one.look(1, 0), 100);
         refused("what 2", ARGUMENT, () -> k.look(0, 2));
         refused("what -1", ARGUMENT, () -> k.look(0, -1));
         refused("rain 1", NO_SUCH, () -> k.look(1, 2));
@@ -842,6 +807,12 @@ public final class PromisesTest {
         KerbSplash never = with("size 2 1;person 0 0;", "throw=16;reach=9;wet=7;");
         never.minutes(1, 1);
         due("never", never.pace(0, 0, 1, 6), -1);
+        KerbSplash least = with("size 2 1;person 0 0;", "throw=16;reach=9;wet=pace;");
+        least.minutes(1, 1);
+        due("not at 1, and 0 is no pace", least.pace(0, 0, 1, 0), -1);
+        due("at 1", least.pace(0, 0, 1, 1), 1);
+        due("at 59", least.pace(0, 0, 1, 59), 59);
+        due("60 at most", least.pace(0, 0, 1, 61), 60);
         due("ever", never.pace(0, 0, 1, 7), 60);
         KerbSplash fast = with("size 2 1;person 0 0;", "throw=16;reach=if pace=50 then 0 else 9;wet=7;");
         fast.minutes(1, 1);
@@ -871,6 +842,15 @@ public final class PromisesTest {
         due("no step but none", wide.moved(0, 0), 0);
         due("as they are", wide.moved(0, 1), 40);
         due("nobody there", with("size 2 1;", "").moved(0, 0), -15);
+        KerbSplash same = with("size 6 1;person 2 0;person 3 0;", "throw=16;reach=9;wet=20;");
+        same.minutes(1, 1);
+        same.traffic(0, 0, 9, 1, 0);
+        due("as wet by each step: the least", same.moved(0, 0), -2);
+        due("so wet", same.moved(0, 1), 40);
+        KerbSplash ends = with("size 6 1;person 0 0;person 3 0;shelter 0 0;", "throw=16;reach=9;wet=20+shelter;");
+        ends.minutes(1, 1);
+        ends.traffic(0, 0, 9, 1, 0);
+        due("nobody goes off the street: the first step that is less wet", ends.moved(0, 0), 1);
         KerbSplash far = with("size 16 1;person 0 0;shelter 15 15;", "throw=16;reach=9;wet=1-shelter;");
         far.minutes(1, 1);
         far.traffic(0, 0, 9, 1, 0);
@@ -1019,6 +999,14 @@ public final class PromisesTest {
         k.leaves(1, 0);
         k.leaves(3, 0);
         due("none has leaves", k.sweep(0), 0);
+        k.leaves(0, 1);
+        due("drain 0 alone", k.sweep(0), 16);
+        due("order 0, too", k.sweep(1), 0);
+        k.leaves(0, 0);
+        k.leaves(2, 16);
+        due("drain 2 alone", k.sweep(0), 12);
+        due("order 2", k.sweep(1), 2);
+        k.leaves(2, 0);
         due("no order", k.sweep(1), 0);
         refused("sweep(2)", ARGUMENT, () -> k.sweep(2));
         refused("sweep(-1)", ARGUMENT, () -> k.sweep(-1));
@@ -1032,6 +1020,14 @@ public final class PromisesTest {
         due("the longest", k.ice(1, 1), 3);
         due("persons", k.ice(1, 2), 2);
         due("cells of 2", k.ice(2, 0), 2);
+        KerbSplash one = with("size 2 2;high 0 1 0;high 1 1 0;person 0 0;person 1 0;drain 1 0 99 0;");
+        one.minutes(1, 3);
+        due("all ran to row 1", one.ice(1, 0), 2);
+        due("so there is none in row 0", one.ice(1, 2), 0);
+        KerbSplash first = with("size 2 1;person 0 0;drain 1 0 99 0;");
+        first.minutes(1, 3);
+        due("person 0 stands on it", first.ice(3, 2), 1);
+        due("not on 4", first.ice(4, 2), 0);
         due("cells of 9999", k.ice(9999, 0), 0);
         due("no row", k.ice(9999, 1), 0);
         due("nobody", k.ice(9999, 2), 0);
@@ -1090,6 +1086,39 @@ public final class PromisesTest {
         due("share", k.share(2, 1), 1);
         due("height", k.cell(1, 1, 0), 50);
         due("none left", k.restore(), -1);
+    }
+
+    private static void imagesKeepWhatWasTold() {
+        KerbSplash k = with("size 2 2;drain 1 1 9 0;person 0 0;", "throw=8;reach=9;wet=pace+row;");
+        k.minutes(1, 8);
+        k.traffic(0, 0, 9, 1, 0);
+        k.traffic(0, 1, 5, 1, 0);
+        k.dip(3, 1, 9);
+        k.dip(4, 2, 9);
+        due("taken", k.sums(1), 8);
+        k.image();
+        due("passes", k.pass(0), 9 + 6);
+        k.clear();
+        k.traffic(99, 0, 33, 1, 0);
+        k.traffic(99, 0, 33, 1, 0);
+        k.dip(99, 30, 1);
+        k.share(0, 50);
+        k.leaves(0, 16);
+        k.minutes(5, 8);
+        due("back", k.restore(), 0);
+        due("taken as then", k.sums(1), 8);
+        due("gone as then", k.sums(2), 0);
+        due("leaves as then", k.drain(0, 3), 0);
+        due("the same traffic passes", k.pass(0), 9 + 6);
+        due("the same dips", k.town(1), 3 * 1 + 4 * 3);
+        k.image();
+        street(k, "size 2 2;drain 1 1 9 0;person 0 0;");
+        k.dip(9, 9, 9);
+        k.image();
+        k.clear();
+        street(k, "x");
+        due("behind a faulty street images stay", k.restore(), 0);
+        due("its dip", k.town(1), 81);
     }
 
     private static void restoring() {
@@ -1154,8 +1183,9 @@ public final class PromisesTest {
 
     private static final Runnable[][] PROMISES = {
         {PromisesTest::newObject}, {PromisesTest::feeding},
-        {PromisesTest::streetTexts, PromisesTest::streetLimits, PromisesTest::streetState},
-        {PromisesTest::rains}, {PromisesTest::lawTexts, PromisesTest::lawsOpen}, {PromisesTest::faults},
+        {PromisesTest::streetTexts, PromisesTest::streetLimits, PromisesTest::streetState,
+            PromisesTest::streetsOneBehindAnother},
+        {PromisesTest::rains, PromisesTest::rainBehindAFaultyOne}, {PromisesTest::lawTexts, PromisesTest::lawsOpen, PromisesTest::lawBehindAFaultyOne}, {PromisesTest::faults},
         {PromisesTest::tellings}, {PromisesTest::cells}, {PromisesTest::drains}, {PromisesTest::leaves},
         {PromisesTest::persons}, {PromisesTest::works}, {PromisesTest::doing}, {PromisesTest::minutes},
         {PromisesTest::showers}, {PromisesTest::sums}, {PromisesTest::sayings},
@@ -1163,19 +1193,16 @@ public final class PromisesTest {
         {PromisesTest::clearing}, {PromisesTest::depths}, {PromisesTest::whens}, {PromisesTest::blames},
         {PromisesTest::looks}, {PromisesTest::stands}, {PromisesTest::paces}, {PromisesTest::moves},
         {PromisesTest::mends}, {PromisesTest::shares}, {PromisesTest::meaning}, {PromisesTest::dips},
-        {PromisesTest::towns}, {PromisesTest::sweeps}, {PromisesTest::ices}, {PromisesTest::images},
+        {PromisesTest::towns}, {PromisesTest::sweeps}, {PromisesTest::ices}, {PromisesTest::images, PromisesTest::imagesKeepWhatWasTold},
         {PromisesTest::restoring}, {PromisesTest::statuses}, {PromisesTest::counts}};
 
     public static void main(String[] args) {
         for (int i = 0; i < PROMISES.length; i++) {
-            promise = i + 1;
+            about = "promise " + (i + 1);
             for (Runnable test : PROMISES[i]) {
                 test.run();
             }
         }
-        System.out.println(PROMISES.length + " promises, " + checks + " checks, " + wrong + " wrong");
-        if (wrong != 0) {
-            System.exit(1);
-        }
+        end(PROMISES.length + " promises");
     }
 }
