@@ -146,6 +146,28 @@ public final class FullAndEmptyTest extends Checks {
         due("stays out of reach", k.stand(0, 19, 1), 20 * 99);
     }
 
+    private static void fourteenDrains() {
+        about = "6 drains and 8 bored ones";
+        KerbSplash k = with("size 2 1;high 0 0 99;" + "drain 1 0 1 0;".repeat(6) + "bore 1 0 2 1;".repeat(8), "");
+        rain(k, "rain 13 2;");
+        for (int work = 0; work < 8; work++) {
+            k.does(work);
+        }
+        due("minutes", k.minutes(2, 13), 2);
+        due("taken by all of them", k.sums(1), 2 * (6 + 16));
+        due("deep", k.deep(0, 1, 0), 4 * (26 - 22));
+        due("look", k.look(0, 0), 100);
+        due("by those of 1 or of 2", k.look(0, 1), 2);
+        due("none is to blame", k.blame(0, 1, 0, 0), -1);
+        for (int drain = 0; drain < 6; drain++) {
+            k.leaves(drain, 16);
+        }
+        due("taken by the bored ones", k.deep(0, 1, 0), 2 * (26 - 22) + 2 * (26 - 16));
+        due("the first of six is to blame", k.blame(0, 1, 0, 0), 0);
+        due("by 1 a minute", k.blame(0, 1, 0, 1), 2);
+        due("a sweeping of six", k.sweep(1), 12345);
+    }
+
     private static void oneMoreBehindEight() {
         about = "STAND with 8 persons and F to 19";
         KerbSplash k = with("size 2 1;" + "person 1 0;".repeat(8), "throw=16;reach=19;wet=1+people;");
@@ -258,6 +280,7 @@ public final class FullAndEmptyTest extends Checks {
     public static void main(String[] args) {
         emptyStreet();
         fullStreet();
+        fourteenDrains();
         oneMoreBehindEight();
         fullTown();
         new FullAndEmptyTest().fullest();

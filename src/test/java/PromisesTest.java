@@ -161,6 +161,8 @@ public final class PromisesTest extends Checks {
             due("work 1 is to do", k.does(1), 1);
             k.minutes(3, 5);
             k.car(0, 0, 1, 1, 0);
+            k.minutes(1, 20);
+            due("some of it stands", k.cell(2, 0, 1) > 0 ? 1 : 0, 1);
         }
         due("one without all that", street(k, "bore 0 0 5 5;"), 24);
         int[] told = {8, 3, 0, 0, 0, 1, 0, 1, 0};
@@ -536,6 +538,13 @@ public final class PromisesTest extends Checks {
         for (int what = 0; what < 5; what++) {
             due("says what " + what, k.says(0, what, 0, 0, 0, 0, 0, 0, 0), what == 4 ? 0 : what + 1);
         }
+        KerbSplash held = new KerbSplash();
+        law(held, "throw=17;reach=0-1;wet=100;slow=0;out=0-9999;");
+        due("throw is not held", held.says(0, 0, 0, 0, 0, 0, 0, 0, 0), 17);
+        due("nor reach", held.says(0, 1, 0, 0, 0, 0, 0, 0, 0), -1);
+        due("nor wet", held.says(0, 2, 0, 0, 0, 0, 0, 0, 0), 100);
+        due("nor slow", held.says(0, 3, 0, 5, 0, 0, 0, 0, 0), 0);
+        due("nor out", held.says(0, 4, 0, 0, 0, 0, 0, 0, 0), -9999);
         due("not held, wrapping", k.says(0, 2, Integer.MAX_VALUE, 0, 0, 0, 0, 0, 0), Integer.MIN_VALUE + 2);
         due("by less than 0", minimumByMinusOne(), Integer.MIN_VALUE);
         refused("says(1, 9)", NO_SUCH, () -> k.says(1, 9, 0, 0, 0, 0, 0, 0, 0));
@@ -692,6 +701,39 @@ public final class PromisesTest extends Checks {
         refused("without a street", OUTSIDE, () -> new KerbSplash().deep(0, 0, 0));
     }
 
+    private static void at600() {
+        KerbSplash k = with("size 2 1;high 0 0 99;drain 1 0 8 16;bore 1 0 9 9;");
+        rain(k, "rain 20 30;");
+        for (int i = 0; i < 9; i++) {
+            k.minutes(60, 0);
+        }
+        k.minutes(50, 0);
+        k.minutes(10, 1);
+        due("20 stand there", k.cell(1, 0, 1), 20);
+        due("deep as it is", k.deep(0, 1, 0), 20);
+        due("when it is so now", k.when(0, 1, 0, 20), 0);
+        due("when it never is", k.when(0, 1, 0, 21), -1);
+        due("blame none", k.blame(0, 1, 0, 0), -1);
+        due("blame by nothing", k.blame(0, 1, 0, 1), 0);
+        due("look nowhere", k.look(0, 0), 0);
+        due("of one kind", k.look(0, 1), 1);
+        due("mend by nothing", k.mend(0, 1, 0, 20, 0), 0);
+        due("none mends it", k.mend(0, 1, 0, 19, 0), -1);
+        refused("a shower", STATE, () -> k.shower(0));
+        refused("a minute", STATE, () -> k.minutes(1, 0));
+        KerbSplash last = with("size 2 1;high 0 0 99;drain 1 0 8 16;");
+        rain(last, "rain 1 30;");
+        for (int i = 0; i < 9; i++) {
+            last.minutes(60, 0);
+        }
+        last.minutes(59, 0);
+        due("one minute is left", last.deep(0, 1, 0), 2);
+        due("in which it is so", last.when(0, 1, 0, 2), 1);
+        due("and no more", last.when(0, 1, 0, 3), -1);
+        due("blame for one minute", last.blame(0, 1, 0, 1), 2);
+        due("a shower of one minute", last.shower(0), 1);
+    }
+
     private static void whens() {
         KerbSplash k = with("size 2 1;high 0 0 99;drain 1 0 8 8;");
         rain(k, "rain 0 3;rain 4 9;");
@@ -701,6 +743,14 @@ public final class PromisesTest extends Checks {
         due("never 37", k.when(0, 1, 0, 37), -1);
         k.minutes(1, 4);
         due("4 now", k.when(0, 1, 0, 4), 0);
+        KerbSplash again = with("size 2 1;high 0 0 99;drain 1 0 8 0;");
+        rain(again, "rain 10 1;rain 0 3;rain 10 2;");
+        // 12 behind the first minute, then 4, 0, 0, 12 and 24.
+        due("12 for the first time", again.when(0, 1, 0, 12), 1);
+        due("1 for the first time", again.when(0, 1, 0, 1), 1);
+        due("13 for the first time", again.when(0, 1, 0, 13), 6);
+        due("24 for the first time", again.when(0, 1, 0, 24), 6);
+        due("25 never", again.when(0, 1, 0, 25), -1);
         refused("n 0", ARGUMENT, () -> k.when(0, 0, 0, 0));
         refused("n 10000", ARGUMENT, () -> k.when(0, 0, 0, 10000));
         refused("rain 1", NO_SUCH, () -> k.when(1, 0, 0, 0));
@@ -772,6 +822,17 @@ public final class PromisesTest extends Checks {
         k.minutes(1, 8);
         due("without traffic", k.stand(0, 19, 0), 0);
         k.traffic(0, 0, 9, 1, 0);
+        KerbSplash even = with("size 3 2;", "throw=16;reach=99;wet=9;");
+        even.minutes(1, 1);
+        even.traffic(0, 0, 9, 1, 0);
+        due("as wet everywhere: the first X and F", even.stand(0, 19, 0), 0);
+        due("so wet", even.stand(0, 19, 1), 9);
+        KerbSplash later = with("size 3 2;shelter 1 2;", "throw=16;reach=99;wet=50-far-shelter;");
+        later.minutes(1, 1);
+        later.traffic(0, 1, 9, 1, 0);
+        due("of two X the first, of all F the last", later.stand(0, 19, 0), 119);
+        due("F 19 in row 1", later.stand(0, 19, 1), 50 - 20 - 1);
+        due("F 5 of 5", later.stand(0, 5, 0), 105);
         due("out of reach", k.stand(0, 19, 0), 6);
         due("not wet", k.stand(0, 19, 1), 0);
         due("in the shelter", k.stand(0, 3, 0), 103);
@@ -884,6 +945,16 @@ public final class PromisesTest extends Checks {
         due("done already", k.mend(0, 1, 0, asIs, 0), 0);
         due("others are left", k.mend(0, 1, 0, asIs - 1, 0), 2);
         due("of these two", k.mend(0, 1, 0, asIs - 4, 0), 18);
+        KerbSplash all = with("size 2 1;high 0 0 99;bore 1 0 3 4;bore 1 0 4 5;");
+        rain(all, "rain 9 1;");
+        due("one of two", all.mend(0, 1, 0, 14, 0), 2);
+        due("both", all.mend(0, 1, 0, 11, 0), 3);
+        due("for both", all.mend(0, 1, 0, 11, 1), 9);
+        all.does(0);
+        all.does(1);
+        due("all are done", all.mend(0, 1, 0, 11, 0), 0);
+        due("nothing is left to do", all.mend(0, 1, 0, 10, 0), -1);
+        due("not for any coin", all.mend(0, 1, 0, 10, 1), -1);
         refused("n -1", ARGUMENT, () -> k.mend(0, 0, 0, -1, 0));
         refused("n 10000", ARGUMENT, () -> k.mend(0, 0, 0, 10000, 0));
         refused("what 2", ARGUMENT, () -> k.mend(0, 0, 0, 0, 2));
@@ -976,6 +1047,20 @@ public final class PromisesTest extends Checks {
         due("together 1 and 900 and 11 and 140", k.town(1), 1052);
         refused("town(3)", ARGUMENT, () -> k.town(3));
         refused("town(-1)", ARGUMENT, () -> k.town(-1));
+        KerbSplash edge = new KerbSplash();
+        edge.dip(1, 5, 5);
+        due("done on its day is not late", edge.town(0), 0);
+        edge.dip(1, 5, 10);
+        due("nor the other", edge.town(0), 0);
+        edge.dip(1, 5, 14);
+        due("a day too late", edge.town(0), 1);
+        KerbSplash fewest = new KerbSplash();
+        fewest.dip(99, 10, 9);
+        fewest.dip(1, 5, 5);
+        fewest.dip(1, 5, 10);
+        due("one is late all ways", fewest.town(0), 1);
+        due("it waits, though it has the most persons", fewest.town(2), 120);
+        due("together", fewest.town(1), 5 + 10 + 99 * 20);
         KerbSplash same = new KerbSplash();
         same.dip(2, 2, 9);
         same.dip(1, 1, 9);
@@ -1103,8 +1188,9 @@ public final class PromisesTest extends Checks {
         k.traffic(99, 0, 33, 1, 0);
         k.dip(99, 30, 1);
         k.share(0, 50);
-        k.leaves(0, 16);
         k.minutes(5, 8);
+        k.leaves(0, 16);
+        due("more is taken", k.sums(1) > 8 ? 1 : 0, 1);
         due("back", k.restore(), 0);
         due("taken as then", k.sums(1), 8);
         due("gone as then", k.sums(2), 0);
@@ -1160,6 +1246,11 @@ public final class PromisesTest extends Checks {
         due("status(4)", k.status(4), -1);
         due("status(-1)", k.status(-1), -1);
         due("faults are no refusals", street(k, "x"), -9);
+        KerbSplash most = new KerbSplash();
+        for (int i = 0; i < 511; i++) {
+            refused("told(-1)", ARGUMENT, () -> most.told(-1));
+        }
+        due("the 512th call", most.status(2), 511);
         due("nor -1", k.restore(), -1);
         due("status(2)", k.status(2), 3);
     }
@@ -1190,7 +1281,7 @@ public final class PromisesTest extends Checks {
         {PromisesTest::persons}, {PromisesTest::works}, {PromisesTest::doing}, {PromisesTest::minutes},
         {PromisesTest::showers}, {PromisesTest::sums}, {PromisesTest::sayings},
         {PromisesTest::cars, PromisesTest::kindsOfCars}, {PromisesTest::traffic}, {PromisesTest::passing},
-        {PromisesTest::clearing}, {PromisesTest::depths}, {PromisesTest::whens}, {PromisesTest::blames},
+        {PromisesTest::clearing}, {PromisesTest::depths, PromisesTest::at600}, {PromisesTest::whens}, {PromisesTest::blames},
         {PromisesTest::looks}, {PromisesTest::stands}, {PromisesTest::paces}, {PromisesTest::moves},
         {PromisesTest::mends}, {PromisesTest::shares}, {PromisesTest::meaning}, {PromisesTest::dips},
         {PromisesTest::towns}, {PromisesTest::sweeps}, {PromisesTest::ices}, {PromisesTest::images, PromisesTest::imagesKeepWhatWasTold},

@@ -576,6 +576,13 @@ public final class TextsTest extends Checks {
         String rest = " then 1 else 0=1";
         value(inside.repeat(6) + "1=1" + rest.repeat(5) + " then 8 else 9", 8);
         lawFault("wet=" + inside.repeat(7) + "1=1" + rest.repeat(6) + " then 8 else 9;", 3, 4 + 18);
+        StringBuilder waiting = new StringBuilder();
+        for (int i = 1; i <= 6; i++) {
+            waiting.append("if 1=2 or 1=1 and ").append(i).append('=');
+        }
+        // Six of them open, each with what stands to the left of its own sign.
+        value(waiting + "2+2*2" + " then 1 else 0".repeat(6), 0);
+        value(waiting + "2+2*2" + " then 5 else 0 then 4 else 0 then 3 else 0 then 2 else 0 then 1 else 0 then 77 else 0", 77);
         value("(if 1=1 then 1 else 2)+(if 1=1 then 1 else 2)+(if 1=1 then 1 else 2)+((((((1))))))", 4);
         value("if 1=1 then (((((1))))) else (((((2)))))", 1);
         lawFault("wet=if 1=1 then ((((((1)))))) else 2;", 3, 21);
