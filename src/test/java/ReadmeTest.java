@@ -41,7 +41,7 @@ public final class ReadmeTest extends Checks {
             if (Modifier.isPublic(method.getModifiers())) {
                 FACE.put(method.getName(), method);
                 checks++;
-                if (!page.contains("kerb." + method.getName() + "(") && !page.contains(method.getName() + "(0)")) {
+                if (!page.contains("\nkerb." + method.getName() + "(") && !method.getName().equals("feed")) {
                     tell("how to use " + method.getName(), "nothing", "an example");
                 }
             }
